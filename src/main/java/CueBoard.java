@@ -406,7 +406,7 @@ public final class CueBoard {
         }
 
         boolean hasNext(Playback playback) {
-            return isIn(playback.list, LISTS) && playback.place + 1 < cues.length[playback.list];
+            return playback.list != NONE && playback.place + 1 < cues.length[playback.list];
         }
 
         /** The next CUE begins; the caller has seen that it is there. */
@@ -496,9 +496,7 @@ public final class CueBoard {
                 ticks++;
                 runPlaybacks();
                 mix();
-                for (int l = 0; l < LINES; l++) {
-                    cutByHeat(l);
-                }
+                reckonHeat();
                 write();
                 digest = lines.digestBehind(digest);
             }
@@ -567,44 +565,52 @@ public final class CueBoard {
             return best;
         }
 
-        boolean isHeating(int f, int c, int l) {
-            return patching.line[f] == l && fixtures.isDimming(f, c)
-                    && patching.place[f] + fixtures.offsetOf(f, c) < lines.size[l];
-        }
-
-        int heatOn(int l) {
-            int sum = 0;
+        void reckonHeat() {
+            Arrays.fill(lines.heat, 0);
             for (int i = 0; i < patching.count; i++) {
                 int f = patching.order[i];
                 for (int c = 0; c < fixtures.channelsOf(f); c++) {
-                    if (isHeating(f, c, l)) {
-                        sum += fixtures.heatOf(f) * levels[f * CHANNELS + c] / MOST_BYTE;
+                    if (isHeating(f, c)) {
+                        lines.heat[patching.line[f]] += heatFrom(f, c);
                     }
                 }
             }
-            return sum;
+            for (int l = 0; l < LINES; l++) {
+                if (lines.heat[l] > lines.limit[l]) {
+                    cutByHeat(l);
+                }
+                lines.over[l] = lines.heat[l] > lines.limit[l] ? 1 : 0;
+            }
+        }
+
+        /** Whether a CHANNEL of a PATCHED FIXTURE is of DIMMING, and WHOLE on its LINE. */
+        boolean isHeating(int f, int c) {
+            int p = patching.place[f] + fixtures.offsetOf(f, c);
+            return fixtures.isDimming(f, c) && p < lines.size[patching.line[f]];
+        }
+
+        int heatFrom(int f, int c) {
+            return fixtures.heatOf(f) * levels[f * CHANNELS + c] / MOST_BYTE;
         }
 
         void cutByHeat(int l) {
             int limit = lines.limit[l];
-            int sum = heatOn(l);
+            int sum = lines.heat[l];
             for (int i = patching.count - 1; i >= 0 && sum > limit; i--) {
                 int f = patching.order[i];
-                if (patching.firm[f] == 1) {
+                if (patching.line[f] != l || patching.firm[f] == 1) {
                     continue;
                 }
-                int heat = fixtures.heatOf(f);
                 for (int c = fixtures.channelsOf(f) - 1; c >= 0 && sum > limit; c--) {
-                    if (isHeating(f, c, l)) {
+                    if (isHeating(f, c)) {
                         int cell = f * CHANNELS + c;
-                        sum -= heat * levels[cell] / MOST_BYTE;
-                        levels[cell] = Math.min(levels[cell], mostWithin(limit - sum, heat));
-                        sum += heat * levels[cell] / MOST_BYTE;
+                        sum -= heatFrom(f, c);
+                        levels[cell] = Math.min(levels[cell], mostWithin(limit - sum, fixtures.heatOf(f)));
+                        sum += heatFrom(f, c);
                     }
                 }
             }
             lines.heat[l] = sum;
-            lines.over[l] = sum > limit ? 1 : 0;
         }
 
         /** The greatest number that, times heat, by 255, cut, is not above room; 0 where none is. */
@@ -897,7 +903,7 @@ public final class CueBoard {
         }
 
         /** Rows up a FIXTURE, or the MEMBERS of a GROUP, behind what is gathered already. */
-        void gather(int f, int depth) {
+        private void gather(int f, int depth) {
             if (kind[f] != GROUP) {
                 if (gathered < MOST_MEMBERS) {
                     members[gathered] = f;
@@ -957,7 +963,7 @@ public final class CueBoard {
             return ask == ASK_REACH ? reachOf(fixtures, f) : fixtures.mostOf(f);
         }
 
-        int spanOf(Fixtures fixtures, int f, int depth) {
+        private int spanOf(Fixtures fixtures, int f, int depth) {
             int kind = fixtures.kind[f];
             if (kind != GROUP) {
                 leaveBodies(kind, ASK_SPAN);
@@ -1113,7 +1119,7 @@ public final class CueBoard {
                 return HOLE;
             }
             if (i == NONE) {
-                return bitsOf(v);
+                return bitsOf((float) v);
             }
             if (!isBetween(curve, i, v)) {
                 return bits[i];
@@ -1163,7 +1169,7 @@ public final class CueBoard {
 
         float heightAt(int curve, int i, int v) {
             if (i == NONE) {
-                return v;
+                return (float) v;
             }
             if (!isBetween(curve, i, v)) {
                 return ys[i];
@@ -1176,7 +1182,7 @@ public final class CueBoard {
         static float floatOf(int yBits) {
             int exponent = (yBits >>> 23) & 0xFF;
             int fraction = yBits & 0x7FFFFF;
-            float y = exponent == 0 ? fraction : fraction + 0x800000;
+            float y = (float) (exponent == 0 ? fraction : fraction + 0x800000);
             for (int e = Math.max(exponent, 1); e < EXPONENT_OF_WHOLE; e++) {
                 y = y * 0.5f;
             }
