@@ -315,6 +315,7 @@ public final class CueBoard {
             clear();
         }
 
+        /** As new. Rows that are counted, and what is written before it is read, may keep what was in them. */
         void clear() {
             lines.clear();
             fixtures.clear();
@@ -327,7 +328,6 @@ public final class CueBoard {
                 playbacks[p].clear();
             }
             Arrays.fill(found, 0);
-            Arrays.fill(levels, 0);
             ticks = 0;
             fades = 0;
             grand = WHOLE_MASTER;
@@ -514,7 +514,7 @@ public final class CueBoard {
             }
         }
 
-        // Just in one TICK is it due: if no next CUE is there then, none follows later.
+        /** Whether the next CUE FOLLOWS: due in one TICK alone, so if it is not there then, it never does. */
         boolean isFollowDue(Playback playback) {
             if (!playback.follows || playback.place < 0 || !hasNext(playback)) {
                 return false;
@@ -651,7 +651,6 @@ public final class CueBoard {
             Arrays.fill(limit, MOST_LIMIT);
             Arrays.fill(heat, 0);
             Arrays.fill(over, 0);
-            Arrays.fill(bytes, 0);
         }
 
         int tell(int l, int n) {
@@ -738,7 +737,9 @@ public final class CueBoard {
         }
 
         void darken(int l) {
-            Arrays.fill(bytes, l * PLACES, (l + 1) * PLACES, 0);
+            for (int p = 0; p < size[l]; p++) {
+                bytes[l * PLACES + p] = 0;
+            }
         }
 
         void darkenPlugged() {
@@ -782,9 +783,6 @@ public final class CueBoard {
         int count, groups, gathered;
 
         void clear() {
-            Arrays.fill(kind, 0);
-            Arrays.fill(number, 0);
-            Arrays.fill(places, 0);
             Arrays.fill(slots, NONE);
             count = 0;
             groups = 0;
@@ -1018,7 +1016,6 @@ public final class CueBoard {
             Arrays.fill(line, NONE);
             Arrays.fill(place, NONE);
             Arrays.fill(firm, 0);
-            Arrays.fill(order, NONE);
             count = 0;
         }
 
@@ -1083,9 +1080,6 @@ public final class CueBoard {
 
         void clear() {
             Arrays.fill(count, 0);
-            Arrays.fill(xs, 0);
-            Arrays.fill(bits, 0);
-            Arrays.fill(ys, 0.0f);
         }
 
         int addPoint(int curve, int x, int yBits) {
@@ -1262,10 +1256,7 @@ public final class CueBoard {
 
         void clear() {
             Arrays.fill(entries, 0);
-            Arrays.fill(rows, 0);
             Arrays.fill(length, 0);
-            Arrays.fill(cue, 0);
-            Arrays.fill(follow, 0);
         }
 
         int rowOf(int cueNumber, int i) {

@@ -262,6 +262,44 @@ public final class BookTest {
         CHECK.bytes("no CURVE, no LIMIT", x, 1, 20, 50);
         CHECK.bytes("no CURVE, no LIMIT", x, 3, 40);
         CHECK.due("HEAT", x.heat(3), 3);
+        whatNobodySeesGoesBack();
+    }
+
+    /** What shows only later, or once more is told. */
+    private static void whatNobodySeesGoesBack() {
+        CueBoard x = show();
+        x.tick(1);
+        x.line(2, 5);
+        x.limit(1, 0);
+        x.patch(0, 1, 1);
+        for (int g = 0; g < 3; g++) {
+            x.group(0, 1);
+        }
+        x.merge(1, 0, true);
+        x.bend(1, 0, 2);
+        x.point(2, 0, 0x42480000);
+        x.entry(1, 1, 0, 30, 0);
+        x.list(1, 1, 0);
+        x.load(1, 1);
+        x.go(1);
+        x.tick(1);
+        CHECK.due("BENT", x.at(3, 0), 50);
+        CHECK.due("back", x.back(1), 1);
+        CHECK.due("LINE 2 was never told", x.at(2, 0), -11);
+        CHECK.due("LINE 2 was never told", x.plug(2), NO);
+        for (int g = 2; g < 5; g++) {
+            CHECK.due("three GROUPS", x.group(0, 1), g);
+        }
+        x.entry(1, 1, 0, 1, 0);
+        x.list(1, 1, 0);
+        x.load(1, 1);
+        x.go(1);
+        x.tick(1);
+        CHECK.due("by the greatest", x.at(3, 0), 40);
+        x.bend(1, 0, 2);
+        x.point(2, 0, 0x7FC00000);
+        x.tick(1);
+        CHECK.due("it was never BENT", x.at(3, 0), 0);
     }
 
     private static void backIsRefused() {

@@ -158,6 +158,17 @@ public final class CuesTest {
         CHECK.due("RATE", x.value(0, 1, 1), 128);
         CHECK.due("TILT", x.value(0, 2, 1), 150);
         CHECK.due("GREEN", x.value(0, 3, 1), 128);
+        // A GROUP in a GROUP in a GROUP; a MEMBER that it gets behind the ENTRY is one, too.
+        x.group(0, 1);
+        x.group(0, 2);
+        x.member(5, 0, 4);
+        x.entry(1, 6, 0, 77, 0);
+        x.member(6, 1, 5);
+        x.list(0, 1, 0);
+        x.go(0);
+        for (int f = 0; f < 4; f++) {
+            CHECK.due("value(0, " + f + ", 0)", x.value(0, f, 0), 77);
+        }
     }
 
     private static void fading() {
@@ -207,6 +218,15 @@ public final class CuesTest {
         CHECK.due("one CHANNEL", x.playback(0, 6), 1);
         x.tick(1);
         CHECK.due("the later ENTRY, from the earlier one", x.value(0, 0, 0), 110);
+        x.entry(1, 0, 0, 50, 1);
+        x.entry(1, 0, 0, 0, 1);
+        x.entry(1, 0, 0, 90, 1);
+        x.list(0, 1, 0);
+        x.go(0);
+        CHECK.due("one FADE", x.playback(0, 3), 1);
+        x.tick(1);
+        CHECK.due("the last ENTRY", x.value(0, 0, 0), 90);
+        CHECK.due("no FADE", x.playback(0, 3), 0);
     }
 
     private static void following() {
@@ -313,6 +333,14 @@ public final class CuesTest {
         CHECK.due("CHANNELS stay", x.playback(0, 6), 4);
         CHECK.due("PLACE stays", x.playback(0, 1), 0);
         CHECK.due("at", x.at(0, 0), 25);
+        x.entry(1, 2, 2, 100, 2);
+        x.list(0, 1, 0);
+        x.go(0);
+        CHECK.due("another one goes", x.playback(0, 3), 1);
+        x.tick(1);
+        CHECK.due("another one goes", x.value(0, 2, 2), 50);
+        CHECK.due("where it was still", x.value(0, 0, 0), 25);
+        CHECK.due("one went", x.stop(0), 1);
     }
 
     private static void releasing() {
@@ -412,6 +440,29 @@ public final class CuesTest {
         x.merge(0, 0, true);
         x.tick(1);
         CHECK.due("each times MASTER first", x.at(0, 0), 18);
+        mergingByChannels();
+    }
+
+    private static void mergingByChannels() {
+        CueBoard x = rig();
+        for (int i = 0; i < 2; i++) {
+            for (int c = 0; c < 3; c++) {
+                x.entry(i, 3, c, 90 - 50 * i, 0);
+            }
+            x.list(i, i, 0);
+            x.load(i, i);
+            x.go(i);
+        }
+        x.merge(3, 1, true);
+        x.tick(1);
+        CHECK.due("RED", x.at(0, 8), 90);
+        CHECK.due("GREEN alone by the latest", x.at(0, 9), 40);
+        CHECK.due("BLUE", x.at(0, 10), 90);
+        x.merge(3, 1, false);
+        x.merge(3, 2, true);
+        x.tick(1);
+        CHECK.due("GREEN", x.at(0, 9), 90);
+        CHECK.due("BLUE alone by the latest", x.at(0, 10), 40);
     }
 
     private static void mergingAmongThoseThatHaveIt() {

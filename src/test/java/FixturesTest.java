@@ -183,6 +183,12 @@ public final class FixturesTest {
         ask(x, 9, 2, 3, 21, 20);
         ask(x, 9, 3, 200, 33, 30, 31);
         CHECK.found("as found", x, 0, 0, 5, 1, 0, 0);
+        x.fixture(3, 1);
+        ask(x, 10, 2, 360, 21, 20);
+        x.fixture(2, 45);
+        ask(x, 11, 3, 255, 32, 30, 31);
+        x.fixture(2, 46);
+        ask(x, 12, 3, 254, 32, 30, 31);
     }
 
     private static void askedOfGroups() {
@@ -203,9 +209,6 @@ public final class FixturesTest {
         x.member(5, 0, 4);
         x.member(5, 1, 3);
         ask(x, 5, 0, 9, 5, 3, 5, 5, 1, 2, 1, 1);
-        for (int i = 0; i < 3; i++) {
-            x.member(2, i, 1);
-        }
         // The longest TRACE there is: 6 times 6 times 6 STROBES.
         CueBoard y = new CueBoard();
         y.fixture(1, 0);
@@ -221,6 +224,10 @@ public final class FixturesTest {
         CHECK.due("no more", y.trace(475), NONE);
         CHECK.due("the last MEMBER", y.memberAt(3, 215), 0);
         CHECK.due("no more MEMBERS", y.memberAt(3, 216), NONE);
+        CHECK.due("six in the first", y.memberAt(1, 5), 0);
+        CHECK.due("not seven", y.memberAt(1, 6), NONE);
+        CHECK.due("36 in the second", y.memberAt(2, 35), 0);
+        CHECK.due("not 37", y.memberAt(2, 36), NONE);
     }
 
     private static void aboutFixtures() {
@@ -293,6 +300,10 @@ public final class FixturesTest {
         x.patch(2, 0, 3);
         x.tick(1);
         CHECK.bytes("elsewhere", x, 0, 0, 11, 0, 12);
+        x.unpatch(1);
+        x.patch(2, 0, 0);
+        x.tick(1);
+        CHECK.bytes("what nobody has is 0 again", x, 0, 12, 0, 0, 0);
     }
 
     private static void firmness() {

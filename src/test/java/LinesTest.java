@@ -166,6 +166,11 @@ public final class LinesTest {
         CHECK.due("wide(4, 0)", x.wide(4, 0), BAD);
         CHECK.due("wide(-1, 0)", x.wide(-1, 0), BAD);
         CHECK.found("all counted", x, 2, 6, 0, 0, 0, 0);
+        x.entry(1, 0, 0, 256, 0);
+        x.list(0, 1, 0);
+        x.go(0);
+        x.tick(1);
+        CHECK.due("wide(0, 1)", x.wide(0, 1), 256);
         x.line(2, 1);
         CHECK.due("wide of one place", x.wide(2, 0), BEYOND);
         x.line(2, 0);

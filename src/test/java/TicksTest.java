@@ -176,6 +176,15 @@ public final class TicksTest {
         CHECK.bytes("0, though it is above it still", x, 0, 100, 0);
         CHECK.due("over", x.over(0), 1);
         CHECK.due("HEAT", x.heat(0), 7);
+        // 101 * 154 / 255 is 60, 101 * 155 / 255 is 61.
+        CueBoard y = new CueBoard();
+        y.line(0, 5);
+        y.fixture(2, 1);
+        y.patch(0, 0, 0);
+        light(y, 255);
+        y.limit(0, 60);
+        y.tick(1);
+        CHECK.due("the greatest one", y.at(0, 4), 154);
         x.firm(0, false);
         x.limit(0, 0);
         x.tick(1);
