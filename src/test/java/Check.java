@@ -1,5 +1,8 @@
 /** Compares answers with those that are due, prints what differs, and ends the program accordingly. */
 final class Check {
+    // A broken class would fill the screen else.
+    private static final int MOST_PRINTED = 200;
+
     private int wrong = 0;
     private int compared = 0;
 
@@ -7,7 +10,9 @@ final class Check {
         compared++;
         if (got != want) {
             wrong++;
-            System.out.println(call + " answered " + got + ", due is " + want);
+            if (wrong <= MOST_PRINTED) {
+                System.out.println(call + " answered " + got + ", due is " + want);
+            }
         }
     }
 

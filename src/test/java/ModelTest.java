@@ -2,19 +2,18 @@ import java.util.Random;
 
 /** All promises: runs of random calls, of fixed seeds, are answered by CueBoard as by Model. */
 public final class ModelTest {
-    private static final int RUNS = 3000, CALLS = 512;
+    private static final int RUNS = 3000, CALLS_TO_LOOK = 170;
     private static final int[] ODD = {Integer.MIN_VALUE, Integer.MAX_VALUE, -2, -1, 0, 1, 24, 64, 65, 256, 65536, -100};
     private static final int[] BITS = {0, 0x80000000, 0x7FC00000, 0xFFC00001, 0x7F800000, 0xFF800000, 0x7F7FFFFF,
         0xFF7FFFFF, 1, 0x80000001, 0x437F0000, 0x42C80000, 0x43000000, 0x3F000000, 0xC2C80000, 0x7F800001};
 
     private final Random random;
-    private final CueBoard board = new CueBoard();
+    private final Run board = new Run();
     private final Model model = new Model();
     private final Check check;
     private final String run;
     // How bold a run is: which calls it favours, and how many odd numbers it gives.
     private final int oddIn, ticksIn, backIn;
-    private int calls = 0;
 
     private ModelTest(int seed, Check check) {
         random = new Random(seed);
@@ -37,7 +36,7 @@ public final class ModelTest {
         if (random.nextInt(4) != 0) {
             begin();
         }
-        while (calls < CALLS - 170) {
+        while (board.calls() < Run.MOST_CALLS - CALLS_TO_LOOK) {
             step();
         }
         look();
@@ -171,61 +170,8 @@ public final class ModelTest {
     }
 
     private void call(String name, int... a) {
-        calls++;
-        StringBuilder told = new StringBuilder(run).append(calls).append(": ").append(name).append('(');
-        for (int i = 0; i < a.length; i++) {
-            told.append(i == 0 ? "" : ", ").append(a[i]);
-        }
-        check.due(told.append(')').toString(), answer(name, a), model.answer(new Model.Call(name, a)));
-    }
-
-    private int answer(String name, int[] a) {
-        switch (name) {
-            case "line": return board.line(a[0], a[1]);
-            case "pull": return board.pull(a[0]);
-            case "plug": return board.plug(a[0]);
-            case "at": return board.at(a[0], a[1]);
-            case "wide": return board.wide(a[0], a[1]);
-            case "fixture": return board.fixture(a[0], a[1]);
-            case "group": return board.group(a[0], a[1]);
-            case "member": return board.member(a[0], a[1], a[2]);
-            case "memberAt": return board.memberAt(a[0], a[1]);
-            case "asks": return board.asks(a[0], a[1]);
-            case "trace": return board.trace(a[0]);
-            case "about": return board.about(a[0], a[1]);
-            case "patch": return board.patch(a[0], a[1], a[2]);
-            case "unpatch": return board.unpatch(a[0]);
-            case "firm": return board.firm(a[0], a[1] == 1);
-            case "point": return board.point(a[0], a[1], a[2]);
-            case "curve": return board.curve(a[0], a[1]);
-            case "bend": return board.bend(a[0], a[1], a[2]);
-            case "entry": return board.entry(a[0], a[1], a[2], a[3], a[4]);
-            case "list": return board.list(a[0], a[1], a[2]);
-            default: return laterAnswer(name, a);
-        }
-    }
-
-    private int laterAnswer(String name, int[] a) {
-        switch (name) {
-            case "load": return board.load(a[0], a[1]);
-            case "go": return board.go(a[0]);
-            case "stop": return board.stop(a[0]);
-            case "release": return board.release(a[0]);
-            case "master": return board.master(a[0], a[1]);
-            case "merge": return board.merge(a[0], a[1], a[2] == 1);
-            case "value": return board.value(a[0], a[1], a[2]);
-            case "playback": return board.playback(a[0], a[1]);
-            case "limit": return board.limit(a[0], a[1]);
-            case "heat": return board.heat(a[0]);
-            case "over": return board.over(a[0]);
-            case "blackout": return board.blackout(a[0] == 1);
-            case "tick": return board.tick(a[0]);
-            case "found": return board.found(a[0]);
-            case "digest": return board.digest();
-            case "replay": return board.replay();
-            case "back": return board.back(a[0]);
-            case "told": return board.told(a[0]);
-            default: throw new IllegalStateException(name);
-        }
+        int got = board.call(name, a);
+        int want = model.answer(new Model.Call(name, a));
+        check.due(got == want ? "" : run + board.calls() + ": " + Run.told(name, a), got, want);
     }
 }

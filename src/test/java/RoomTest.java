@@ -9,7 +9,7 @@ import java.util.Map;
 
 /** The room that objects take: little when made, a second board at the first replay(), and none for any other call. */
 public final class RoomTest {
-    private static final int CALLS = 512, MOST_OBJECTS = 200, MOST_ELEMENTS = 12000, MOST_BYTES = 4096;
+    private static final int CALLS = 400, MOST_OBJECTS = 200, MOST_ELEMENTS = 12000, MOST_BYTES = 4096;
     private static final Check CHECK = new Check();
 
     public static void main(String[] args) throws IllegalAccessException {
@@ -81,7 +81,7 @@ public final class RoomTest {
             x.back(0);
         }
         long made = allocated() - before;
-        most("bytes that 512 calls made", made, MOST_BYTES);
+        most("bytes that " + CALLS + " calls made", made, MOST_BYTES);
     }
 
     private static long allocated() {
