@@ -41,6 +41,7 @@ public final class BookEdgesTest {
         backWithinACall();
         backFromAFullBook();
         toldNumbers();
+        theLastCallThatIsPromised();
         CHECK.end();
     }
 
@@ -307,10 +308,50 @@ public final class BookEdgesTest {
             int n = row[1].equals("tick") ? 1 : 0;
             EDGES.alike("back behind " + row[1], Rigs.LIVELY_BEHIND_3, back(more, n));
         }
+        everyPartGoesBack();
         EDGES.still("calls in THE BOOK", Rigs.LIVELY, 57, "told", 2);
         EDGES.still("calls in THE BOOK", back(Rigs.LIVELY, 0), 57, "told", 2);
         EDGES.still("calls in THE BOOK", back(Rigs.LIVELY, 1), 55, "told", 2);
         EDGES.still("calls in THE BOOK", back(Rigs.LIVELY, 2), 55, "told", 2);
+    }
+
+    /** A board, and calls behind it. */
+    private static Rigs.Rig then(Rigs.Rig rig, Object[]... rows) {
+        return x -> {
+            rig.set(x);
+            for (Object[] row : rows) {
+                x.call((String) row[0], behindName(row));
+            }
+        };
+    }
+
+    private static int[] behindName(Object[] row) {
+        int[] a = new int[row.length - 1];
+        for (int i = 0; i < a.length; i++) {
+            a[i] = (Integer) row[i + 1];
+        }
+        return a;
+    }
+
+    /** What LIVELY does not have yet, told behind its last TICK, and seen in one more, goes back. */
+    private static void everyPartGoesBack() {
+        Object[][] changes = {{"firm", 3, 1}, {"firm", 0, 0}, {"merge", 2, 2, 1}, {"merge", 0, 0, 0},
+            {"bend", 0, 0, 1}, {"bend", 1, 1, NONE}, {"limit", 1, 0}, {"limit", 0, 1000000}, {"line", 3, 9},
+            {"line", 0, 0}, {"pull", 1}, {"plug", 2}, {"unpatch", 0}, {"patch", 1, 1, 1}, {"member", 5, 1, 3},
+            {"member", 5, 0, NONE}, {"point", 0, 40, 0}, {"point", 2, 0, 0}, {"entry", 0, 0, 0, 9, 9},
+            {"list", 3, 9, 9}, {"load", 3, 0}, {"load", 0, NONE}, {"go", 0}, {"stop", 0}, {"release", 1},
+            {"master", 0, 0}, {"master", NONE, 0}, {"blackout", 1}};
+        Object[] tick = {"tick", 1};
+        for (Object[] change : changes) {
+            Rigs.Rig more = then(Rigs.LIVELY, change, tick);
+            EDGES.alike("back behind " + change[0] + "() and a TICK", Rigs.LIVELY_BEHIND_3, back(more, 1));
+        }
+        Rigs.Rig patched = then(Rigs.FIXTURES_24, new Object[] {"patch", 23, 0, 5}, tick);
+        EDGES.alike("PATCHED, and gone", Rigs.LIVELY_BEHIND_3, back(patched, 1));
+        // What a CHANNEL was when it was BENT last shows in a HOLE alone.
+        Rigs.Rig bent = back(then(Rigs.LIVELY, new Object[] {"bend", 0, 0, 1}, tick), 1);
+        Object[][] hole = {{"bend", 0, 0, 2}, {"point", 2, 0, Rigs.NUMBERLESS}, tick};
+        EDGES.alike("it was not BENT", then(Rigs.LIVELY_BEHIND_3, hole), then(bent, hole));
     }
 
     /** Of a call of several TICKS those behind it are out. */
@@ -383,5 +424,29 @@ public final class BookEdgesTest {
         CHECK.due("a BLACKOUT", x.told(3), 1);
         x.master(NONE, 0);
         CHECK.due("GRAND", x.told(4), 0);
+    }
+
+    /** At most 512 calls: the last one is answered as the first was, whatever was called, and however often. */
+    private static void theLastCallThatIsPromised() {
+        CueBoard x = new CueBoard();
+        for (int i = 1; i <= Run.MOST_CALLS; i++) {
+            CHECK.due("tick " + i, x.tick(1), i);
+        }
+        for (Object[] row : ACTS) {
+            Run y = new Run();
+            Rigs.LIVELY.set(y);
+            int acted = y.call("told", 2);
+            while (y.calls() < Run.MOST_CALLS - 2) {
+                acted += y.call((String) row[1], numbers(row)) >= 0 ? 1 : 0;
+            }
+            CHECK.due("FIXTURE 0 is there behind many " + row[1], y.call("about", 0, 0), 0);
+            CHECK.due("calls in THE BOOK behind many " + row[1], y.call("told", 2), Math.min(acted, 121));
+        }
+        Run z = new Run();
+        Rigs.LIVELY.set(z);
+        int digest = z.call("digest");
+        while (z.calls() < Run.MOST_CALLS) {
+            CHECK.due("PLAYED AGAIN", z.call("replay"), digest);
+        }
     }
 }

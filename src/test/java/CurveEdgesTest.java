@@ -15,6 +15,7 @@ public final class CurveEdgesTest {
         withoutPoints();
         beforeAndBehind();
         betweenNeighbours();
+        floatsAtTheirEnds();
         holes();
         bentToBytes();
         holesWhileBent();
@@ -156,6 +157,31 @@ public final class CurveEdgesTest {
         CHECK.due("0 and 0", z.curve(2, 1), 0);
         CHECK.due("half of the least is 0", z.curve(2, 3), 0);
         CHECK.due("the least", z.curve(2, 4), 1);
+    }
+
+    /** Each act as a float: of the least, the greatest, and those where floats change their step. */
+    private static void floatsAtTheirEnds() {
+        int[] ys = {0, 0x80000000, 1, 0x80000001, 3, 0x80000003, 0x007FFFFF, 0x807FFFFF, 0x00800000, 0x80800000,
+            0x00800001, 0x4B7FFFFF, 0x4B800000, 0x4B800001, 0xCB800001, 0x7E800000, 0x7F000000, 0x7F7FFFFE, 0x7F7FFFFF,
+            0xFF7FFFFF, 0xFF000001};
+        for (int a : ys) {
+            for (int b : ys) {
+                CueBoard x = new CueBoard();
+                x.point(3, 100, a);
+                x.point(3, 104, b);
+                float y = Float.intBitsToFloat(a);
+                float next = Float.intBitsToFloat(b);
+                for (int v = 1; v < 4; v++) {
+                    float want = y + (next - y) * ((float) v / 4f);
+                    String when = Integer.toHexString(a) + " to " + Integer.toHexString(b) + ", " + v + " of 4";
+                    CHECK.due(when, x.curve(3, 100 + v), bits(want));
+                }
+            }
+        }
+        CueBoard x = new CueBoard();
+        x.point(0, 0, 0x80000000);
+        x.point(0, 2, 0x80000001);
+        CHECK.due("0 below 0, and half of the least below it", x.curve(0, 1), 0x80000000);
     }
 
     /** Where a y that is wanted is no number there is a HOLE: 0x7FC00000. */

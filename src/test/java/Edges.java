@@ -1,5 +1,4 @@
 import java.util.ArrayList;
-import java.util.Arrays;
 import java.util.IdentityHashMap;
 import java.util.List;
 import java.util.Map;
@@ -11,7 +10,6 @@ import java.util.Map;
  */
 final class Edges {
     private static final int NOTHING = -11, STORE = -16;
-    private static final String[] HOW_TWINS_GO_ON = {"counts", "goes", "stops", "lights", "turns back"};
 
     private final Check check;
     // What the twin answered, by views.
@@ -47,7 +45,7 @@ final class Edges {
 
     /** One board is as the other is, however it came there. */
     void alike(String why, Rigs.Rig rig, Rigs.Rig other) {
-        for (List<Model.Call> view : viewsWithin(Math.min(roomBehind(rig), roomBehind(other)))) {
+        for (List<Model.Call> view : Views.within(Math.min(roomBehind(rig), roomBehind(other)))) {
             Run x = new Run();
             other.set(x);
             compare(why, x, view, answers(rig, view), 0, false);
@@ -109,7 +107,7 @@ final class Edges {
     private List<List<Model.Call>> viewsOf(Rigs.Rig rig) {
         if (!views.containsKey(rig)) {
             // One call less, for the one that is tested.
-            views.put(rig, viewsWithin(roomBehind(rig) - 1));
+            views.put(rig, Views.within(roomBehind(rig) - 1));
             twins.put(rig, new ArrayList<>());
             for (List<Model.Call> view : views.get(rig)) {
                 twins.get(rig).add(answers(rig, view));
@@ -124,14 +122,6 @@ final class Edges {
         return Run.MOST_CALLS - x.calls();
     }
 
-    private static List<List<Model.Call>> viewsWithin(int room) {
-        List<List<Model.Call>> all = cut(lookAtAll(), room);
-        for (String how : HOW_TWINS_GO_ON) {
-            all.add(goOn(how));
-        }
-        return all;
-    }
-
     private static int[] answers(Rigs.Rig rig, List<Model.Call> view) {
         Run x = new Run();
         rig.set(x);
@@ -140,161 +130,5 @@ final class Edges {
             answers[i] = x.call(view.get(i).name, view.get(i).a);
         }
         return answers;
-    }
-
-    /** In pieces, for a board answers no more calls than are promised. */
-    private static List<List<Model.Call>> cut(List<Model.Call> calls, int length) {
-        List<List<Model.Call>> pieces = new ArrayList<>();
-        for (int i = 0; i < calls.size(); i += length) {
-            pieces.add(calls.subList(i, Math.min(i + length, calls.size())));
-        }
-        return pieces;
-    }
-
-    private static void add(List<Model.Call> calls, String name, int... a) {
-        calls.add(new Model.Call(name, a));
-    }
-
-    /** A call for each value of its last number. */
-    private static void addUpTo(List<Model.Call> calls, int to, String name, int... a) {
-        for (int i = 0; i <= to; i++) {
-            int[] b = Arrays.copyOf(a, a.length + 1);
-            b[a.length] = i;
-            calls.add(new Model.Call(name, b));
-        }
-    }
-
-    /** All that can be asked. */
-    private static List<Model.Call> lookAtAll() {
-        List<Model.Call> calls = new ArrayList<>();
-        addUpTo(calls, 6, "found");
-        addUpTo(calls, 9, "trace");
-        addUpTo(calls, 4, "told");
-        add(calls, "digest");
-        add(calls, "replay");
-        for (int i = 0; i < 4; i++) {
-            add(calls, "heat", i);
-            add(calls, "over", i);
-            addUpTo(calls, 6, "playback", i);
-            addUpTo(calls, 63, "at", i);
-            for (int v : new int[] {0, 1, 6, 10, 15, 20, 25, 30, 255}) {
-                add(calls, "curve", i, v);
-            }
-        }
-        for (int f = 0; f < 24; f++) {
-            addUpTo(calls, 4, "about", f);
-            addUpTo(calls, 3, "memberAt", f);
-            for (int p = 0; p < 4; p++) {
-                addUpTo(calls, 2, "value", p, f);
-            }
-        }
-        addUpTo(calls, 6, "found");
-        return calls;
-    }
-
-    private static List<Model.Call> goOn(String how) {
-        List<Model.Call> calls = new ArrayList<>();
-        switch (how) {
-            case "counts": addCounts(calls); break;
-            case "goes": addGoes(calls); break;
-            case "stops": addStops(calls); break;
-            case "lights": addLights(calls); break;
-            default: addTurnsBack(calls); break;
-        }
-        addUpTo(calls, 6, "found");
-        addUpTo(calls, 2, "told");
-        return calls;
-    }
-
-    /** How many there are of what is counted as it comes. */
-    private static void addCounts(List<Model.Call> calls) {
-        for (int cue = 0; cue < 16; cue++) {
-            add(calls, "entry", cue, 0, 0, 1, 1);
-        }
-        for (int i = 0; i < 4; i++) {
-            add(calls, "list", i, 15, 1);
-            add(calls, "point", i, 250, 0);
-        }
-        add(calls, "group", 0, 1);
-        add(calls, "fixture", 0, 0);
-        for (int p = -1; p < 4; p++) {
-            add(calls, "master", p, 50);
-        }
-        add(calls, "blackout", 1);
-    }
-
-    private static void addTick(List<Model.Call> calls, int n) {
-        add(calls, "tick", n);
-        add(calls, "digest");
-        for (int l = 0; l < 4; l++) {
-            add(calls, "heat", l);
-        }
-    }
-
-    private static void addGoes(List<Model.Call> calls) {
-        addTick(calls, 1);
-        addTick(calls, 1);
-        addTick(calls, 1);
-        for (int p = 0; p < 4; p++) {
-            add(calls, "go", p);
-        }
-        addTick(calls, 1);
-        addTick(calls, 5);
-        for (int p = 0; p < 4; p++) {
-            add(calls, "playback", p, 1);
-            add(calls, "playback", p, 3);
-            add(calls, "playback", p, 6);
-        }
-    }
-
-    private static void addStops(List<Model.Call> calls) {
-        for (int p = 0; p < 4; p++) {
-            add(calls, "stop", p);
-        }
-        addTick(calls, 2);
-        for (int p = 0; p < 4; p++) {
-            add(calls, "release", p);
-        }
-        addTick(calls, 1);
-        for (int p = 0; p < 4; p++) {
-            add(calls, "load", p, p);
-            add(calls, "go", p);
-        }
-        addTick(calls, 4);
-        for (int l = 0; l < 4; l++) {
-            add(calls, "pull", l);
-            add(calls, "plug", l);
-        }
-        addTick(calls, 1);
-    }
-
-    private static void addLights(List<Model.Call> calls) {
-        add(calls, "blackout", 0);
-        for (int l = 0; l < 4; l++) {
-            add(calls, "line", l, 64);
-        }
-        addTick(calls, 1);
-        for (int f = 0; f < 8; f++) {
-            add(calls, "entry", 14, f, f % 3, 222, 0);
-            add(calls, "patch", f, f % 4, 2 * f);
-        }
-        add(calls, "list", 2, 14, 0);
-        add(calls, "load", 3, 2);
-        add(calls, "go", 3);
-        add(calls, "go", 3);
-        addTick(calls, 2);
-        add(calls, "release", 0);
-        addTick(calls, 1);
-    }
-
-    private static void addTurnsBack(List<Model.Call> calls) {
-        for (int n = 0; n < 3; n++) {
-            add(calls, "back", n);
-            add(calls, "digest");
-            addUpTo(calls, 6, "found");
-            addUpTo(calls, 4, "told");
-            add(calls, "trace", 0);
-        }
-        add(calls, "replay");
     }
 }

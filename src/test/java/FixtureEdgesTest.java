@@ -347,6 +347,29 @@ public final class FixtureEdgesTest {
         x.go(0);
         CHECK.found("DIMMERS have no such CHANNEL", x, 0, 0, 36 * 2, 0, 0, 0);
         CHECK.due("CHANNELS", x.playback(0, 6), 4);
+        longestTrace();
+    }
+
+    /** 216 STROBES, of two BODIES each, in 43 GROUPS. */
+    private static void longestTrace() {
+        CueBoard x = new CueBoard();
+        x.fixture(1, 0);
+        for (int g = 1; g <= 3; g++) {
+            x.group(0, 6);
+            for (int i = 0; i < 6; i++) {
+                x.member(g, i, g - 1);
+            }
+        }
+        CHECK.due("SPAN", x.asks(3, 0), 432);
+        int[] first = {5, 5, 5, 2, 1, 2, 1};
+        for (int i = 0; i < first.length; i++) {
+            CHECK.due("the first BODIES", x.trace(i), first[i]);
+        }
+        CHECK.due("the last but one", x.trace(473), 2);
+        CHECK.due("the last", x.trace(474), 1);
+        CHECK.due("no more", x.trace(475), NONE);
+        CHECK.due("a short one", x.asks(0, 0), 2);
+        CHECK.trace("empty ahead of each ask", x, 2, 1);
     }
 
     /** ASK 0 SPAN, 1 HEAT, 2 REACH, 3 MOST of a FIXTURE. BAD; SORT: it does not SHOW, MOVE; NOUGHT. */

@@ -39,7 +39,7 @@ public final class LineEdgesTest {
 
     /** LINES are told with 0 to 64 places. BAD: l, n above 64; FEWER. */
     private static void places() {
-        for (Rigs.Rig rig : new Rigs.Rig[] {Rigs.NEW, Rigs.LIVELY}) {
+        for (Rigs.Rig rig : new Rigs.Rig[] {Rigs.NEW, Rigs.LIVELY, Rigs.LIVELY_BEHIND_3}) {
             for (int l = 0; l < 4; l++) {
                 EDGES.taken("no place", rig, 1, "line", l, 0);
                 EDGES.taken("one place", rig, 1, "line", l, 1);
@@ -168,6 +168,8 @@ public final class LineEdgesTest {
         }
         EDGES.still("behind 64", Rigs.LIVELY, BEYOND, "at", 1, 64);
         EDGES.still("PULLED", Rigs.LIVELY, NOTHING, "at", 2, 0);
+        EDGES.still("PULLED", Rigs.LIVELY_BEHIND_3, NOTHING, "at", 2, 0);
+        EDGES.still("never told", Rigs.LIVELY_BEHIND_3, NOTHING, "at", 3, 0);
     }
 
     /** The two bytes from a place on as one number. BAD: l; NOTHING; BEYOND: one of both. */

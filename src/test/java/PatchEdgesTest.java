@@ -89,6 +89,16 @@ public final class PatchEdgesTest {
                 EDGES.still("no such FIXTURE", Rigs.LIVELY, BAD, "firm", f, on);
             }
         }
+        CueBoard x = new CueBoard();
+        x.fixture(0, 0);
+        for (int on : new int[] {0, 1, 1, 0, 0}) {
+            x.firm(0, on == 1);
+            CHECK.due("FIRM, or not", x.about(0, 4), on);
+        }
+        x.firm(0, true);
+        x.patch(0, 0, 0);
+        x.unpatch(0);
+        CHECK.due("patching leaves it", x.about(0, 4), 1);
     }
 
     /** One FIXTURE of a KIND, all its bytes 200, 201 and so on, PATCHED at place p of LINE 0 that has n places. */

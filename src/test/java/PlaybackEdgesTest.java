@@ -11,6 +11,7 @@ public final class PlaybackEdgesTest {
         fadesAndTheirEnds();
         halvesUp();
         fadesInPlaceOfOthers();
+        fadesSideBySide();
         stoppingNoneAndAll();
         releasingNoneAndAll();
         masterNumbers();
@@ -18,6 +19,7 @@ public final class PlaybackEdgesTest {
         mergeNumbers();
         mergedOfNoneAndAll();
         mergedByTheLatest();
+        mergedByChannels();
         valueNumbers();
         whatOfAPlayback();
         actsAreCounted();
@@ -128,6 +130,18 @@ public final class PlaybackEdgesTest {
 
     /** A FADE of that CHANNEL begins, in place of an earlier one: also of 0 ticks, and of one and the same CUE. */
     private static void fadesInPlaceOfOthers() {
+        for (int first : new int[] {1, 2}) {
+            for (int t : new int[] {0, 1, 2}) {
+                CueBoard x = fade(10, 20, first);
+                x.entry(2, 0, 0, 1000, t);
+                x.list(0, 2, 0);
+                x.go(0);
+                CHECK.due("one goes, or none", x.playback(0, 3), t == 0 ? 0 : 1);
+                x.tick(1);
+                CHECK.due("one goes, or none", x.playback(0, 3), t == 2 ? 1 : 0);
+                CHECK.due("the later one", x.value(0, 0, 0), t == 2 ? 505 : 1000);
+            }
+        }
         for (int t : new int[] {0, 1, 100}) {
             CueBoard x = fade(10, 20, 4);
             x.entry(2, 0, 0, 1000, t);
@@ -141,6 +155,42 @@ public final class PlaybackEdgesTest {
             x.tick(1);
             CHECK.due("the later one alone", x.value(0, 0, 0), t == 100 ? 28 : 1000);
         }
+    }
+
+    /** FADES of one PLAYBACK end each for itself, and those that stopped stay where they are while others go. */
+    private static void fadesSideBySide() {
+        CueBoard x = new CueBoard();
+        x.fixture(3, 0);
+        for (int c = 0; c < 3; c++) {
+            x.entry(0, 0, c, 120, c + 1);
+        }
+        x.list(0, 0, 0);
+        x.load(0, 0);
+        x.go(0);
+        int[][] want = {{120, 60, 40, 2}, {120, 120, 80, 1}, {120, 120, 120, 0}, {120, 120, 120, 0}};
+        for (int[] row : want) {
+            x.tick(1);
+            for (int c = 0; c < 3; c++) {
+                CHECK.due("behind " + x.told(1) + ": " + c, x.value(0, 0, c), row[c]);
+            }
+            CHECK.due("that go", x.playback(0, 3), row[3]);
+        }
+        x.release(0);
+        x.go(0);
+        x.tick(1);
+        CHECK.due("two went", x.stop(0), 2);
+        x.entry(2, 0, 1, 0, 2);
+        x.list(1, 2, 0);
+        x.load(0, 1);
+        x.go(0);
+        CHECK.due("one goes", x.playback(0, 3), 1);
+        x.tick(1);
+        CHECK.due("it goes", x.value(0, 0, 1), 30);
+        CHECK.due("this one stays", x.value(0, 0, 2), 40);
+        x.tick(1);
+        CHECK.due("it ended", x.value(0, 0, 1), 0);
+        CHECK.due("this one stays", x.value(0, 0, 2), 40);
+        CHECK.due("none goes", x.playback(0, 3), 0);
     }
 
     /** 24 SCREENS; PLAYBACK 0 has begun to fade all 72 CHANNELS to 200 in t ticks. */
@@ -339,6 +389,32 @@ public final class PlaybackEdgesTest {
         y.merge(0, 0, false);
         y.tick(1);
         CHECK.due("the greatest again", y.at(0, 0), 100);
+    }
+
+    /** Each CHANNEL for itself. */
+    private static void mergedByChannels() {
+        for (int c = 0; c < 3; c++) {
+            CueBoard x = new CueBoard();
+            x.line(0, 6);
+            for (int f = 0; f < 2; f++) {
+                x.fixture(3, 0);
+                x.patch(f, 0, 3 * f);
+                for (int i = 0; i < 3; i++) {
+                    x.entry(0, f, i, 90, 0);
+                    x.entry(1, f, i, 40, 0);
+                }
+            }
+            for (int p = 0; p < 2; p++) {
+                x.list(p, p, 0);
+                x.load(p, p);
+                x.go(p);
+            }
+            x.merge(1, c, true);
+            x.tick(1);
+            for (int i = 0; i < 6; i++) {
+                CHECK.due("by the latest is " + c + " alone: " + i, x.at(0, i), i == 3 + c ? 40 : 90);
+            }
+        }
     }
 
     /** The VALUE of a CHANNEL in a PLAYBACK; NONE: it has none. BAD; SORT. */

@@ -9,7 +9,7 @@ final class Rigs {
 
     static final Rig NEW = x -> { };
     static final Rig NEW_DIMMER = x -> x.call("fixture", 0, 0);
-    /** Some of all, in the midst of it: FADES go, a CUE will be followed, a LINE is cut by HEAT, something was found. */
+    /** Some of all, in the midst of it: FADES go, a CUE will be followed, a LINE is cut by HEAT, some was found. */
     static final Rig LIVELY = Rigs::lively;
     /** What THE BOOK of LIVELY has, up to right behind its TICKS 3, 2 and 1. */
     static final Rig LIVELY_BEHIND_3 = x -> {
@@ -150,9 +150,10 @@ final class Rigs {
     }
 
     private static void ticks(Run x, int n) {
-        all(x, "line", new int[][] {{0, 2}});
-        all(x, "fixture", new int[][] {{0, 0}});
-        all(x, "patch", new int[][] {{0, 0, 1}});
+        x.call("line", 0, 2);
+        x.call("fixture", 0, 0);
+        x.call("patch", 0, 0, 1);
+        x.call("asks", 0, 1);
         int left = n;
         while (left > 0) {
             int some = Math.min(left, 5);

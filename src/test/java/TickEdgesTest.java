@@ -71,6 +71,19 @@ public final class TickEdgesTest {
         return x;
     }
 
+    /** A MOVER with n on LINE 0, its LEVEL at 255. */
+    private static CueBoard mover(int n) {
+        CueBoard x = new CueBoard();
+        x.line(0, 5);
+        x.fixture(2, n);
+        x.patch(0, 0, 0);
+        x.entry(0, 0, 2, 255, 0);
+        x.list(0, 0, 0);
+        x.load(0, 0);
+        x.go(0);
+        return x;
+    }
+
     /** If they are together above its LIMIT: just as much is not above it. */
     private static void aboveItsLimit() {
         // Two DIMMERS: 20 and 10 (20 times 128 by 255).
@@ -110,6 +123,18 @@ public final class TickEdgesTest {
                 CHECK.due("KIND " + kind + " at LIMIT " + limit, x.at(0, levelAt[kind]), want);
                 CHECK.due("HEAT", x.heat(0), heats[kind] * want / 255);
                 CHECK.due("over", x.over(0), 0);
+            }
+        }
+        for (int n = 0; n <= 45; n++) {
+            for (int limit : new int[] {0, 1, 60, 99 + n, 100 + n}) {
+                CueBoard x = mover(n);
+                x.limit(0, limit);
+                x.tick(1);
+                int want = 255;
+                while ((100 + n) * want / 255 > limit) {
+                    want--;
+                }
+                CHECK.due("a MOVER with " + n + " at LIMIT " + limit, x.at(0, 4), want);
             }
         }
         CueBoard s = lit(new int[] {3}, new int[] {255});
