@@ -150,11 +150,8 @@ final class Rigs {
     }
 
     private static void ticks(Run x, int n) {
-        x.call("line", 0, 2);
-        x.call("fixture", 0, 0);
-        x.call("patch", 0, 0, 1);
-        x.call("asks", 0, 1);
-        int left = n;
+        lively(x);
+        int left = n - x.call("told", 1);
         while (left > 0) {
             int some = Math.min(left, 5);
             x.call("tick", some);

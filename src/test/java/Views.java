@@ -7,7 +7,9 @@ import java.util.List;
  * of one kind alone or goes on in one way, so that a call in it hides nothing from those behind it.
  */
 final class Views {
-    private static final int LINES = 4, PLAYBACKS = 4, FIXTURES = 24, RIGGED = 8, CHANNELS = 3;
+    private static final int LINES = 4, PLAYBACKS = 4, FIXTURES = 24, CHANNELS = 3;
+    // Those of LIVELY that SHOW.
+    private static final int[] SHOWING = {0, 1, 2, 3, 4, 7};
 
     private final List<Model.Call> calls = new ArrayList<>();
 
@@ -152,7 +154,11 @@ final class Views {
     }
 
     private Views tick(int n) {
-        return call("tick", n).call("digest").each(0, LINES - 1, "heat");
+        return call("tick", n).call("digest");
+    }
+
+    private Views endOfIt() {
+        return each(0, LINES - 1, "heat").each(1, 6, "found").each(0, 2, "told");
     }
 
     private static Views goesOn() {
@@ -160,7 +166,7 @@ final class Views {
         for (int p = 0; p < PLAYBACKS; p++) {
             view.call("playback", p, 1).call("playback", p, 3).call("playback", p, 6);
         }
-        return view.each(1, 6, "found").each(0, 2, "told");
+        return view.endOfIt();
     }
 
     private static Views stops() {
@@ -172,7 +178,7 @@ final class Views {
         for (int l = 0; l < LINES; l++) {
             view.call("pull", l).call("plug", l);
         }
-        return view.tick(1).each(1, 6, "found").each(0, 2, "told");
+        return view.tick(1).endOfIt();
     }
 
     private static Views lights() {
@@ -181,11 +187,11 @@ final class Views {
             view.call("line", l, 64);
         }
         view.tick(1);
-        for (int f = 0; f < RIGGED; f++) {
+        for (int f : SHOWING) {
             view.call("entry", 14, f, f % CHANNELS, 222, 0).call("patch", f, f % LINES, 2 * f);
         }
         view.call("list", 2, 14, 0).call("load", 3, 2).call("go", 3).call("go", 3);
-        return view.tick(2).call("release", 0).tick(1).each(1, 6, "found").each(0, 2, "told");
+        return view.tick(2).call("release", 0).tick(1).endOfIt();
     }
 
     /** All CHANNELS at 250 in PLAYBACK 2, then at 30 in 3, each FIXTURE for itself; LIMITS as they are, or none. */
@@ -197,19 +203,18 @@ final class Views {
                 view.call("limit", l, 1000000);
             }
         }
-        for (int f = 0; f < RIGGED; f++) {
+        for (int f : SHOWING) {
             view.call("patch", f, f % LINES, 8 * f);
             for (int c = 0; c < CHANNELS; c++) {
                 view.call("entry", f < 4 ? 10 : 11, f, c, 250, 0).call("entry", f < 4 ? 12 : 13, f, c, 30, 0);
             }
         }
-        for (int i = 0; i < 4; i++) {
-            view.call("list", i < 2 ? 2 : 3, 10 + i, 0);
-        }
-        for (int p = 2; p < 4; p++) {
-            view.call("load", p, p).call("go", p).call("go", p).call("go", p).tick(1);
-        }
-        return view.each(0, LINES - 1, "over");
+        // LISTS 1 and 2 of LIVELY have 2 CUES and 1 before these.
+        view.call("list", 1, 10, 0).call("list", 1, 11, 0).call("load", 2, 1);
+        view.call("go", 2).call("go", 2).call("go", 2).call("go", 2).tick(1);
+        view.call("list", 2, 12, 0).call("list", 2, 13, 0).call("load", 3, 2);
+        view.call("go", 3).call("go", 3).call("go", 3).tick(1);
+        return view.each(0, LINES - 1, "heat").each(0, LINES - 1, "over");
     }
 
     private static Views turnsBack() {
