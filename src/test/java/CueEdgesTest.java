@@ -16,6 +16,7 @@ public final class CueEdgesTest {
         going();
         goingThroughAList();
         goingFindsSort();
+        emptyAndFullCues();
         followsAtItsTick();
         followZeroIsNone();
         followsThroughAList();
@@ -230,6 +231,39 @@ public final class CueEdgesTest {
         CHECK.due("found once", y.found(3), 1);
         y.back(0);
         CHECK.due("found once", y.found(3), 1);
+    }
+
+    /** A CUE without ENTRIES begins, too; one of 12, each of 216 MEMBERS, goes through them all in order. */
+    private static void emptyAndFullCues() {
+        CueBoard x = new CueBoard();
+        x.list(0, 15, 0);
+        x.load(0, 0);
+        CHECK.due("it begins", x.go(0), 15);
+        CHECK.due("its PLACE", x.playback(0, 1), 0);
+        CHECK.due("no FADES", x.playback(0, 3), 0);
+        CHECK.due("no CHANNELS", x.playback(0, 6), 0);
+        CueBoard y = new CueBoard();
+        y.fixture(2, 0);
+        y.fixture(0, 0);
+        for (int g = 2; g < 5; g++) {
+            y.group(0, 6);
+            for (int i = 0; i < 6; i++) {
+                y.member(g, i, g == 2 ? i % 2 : g - 1);
+            }
+        }
+        for (int i = 0; i < 12; i++) {
+            CHECK.due("an ENTRY", y.entry(0, 4, i % 3, 100 + i, i < 9 ? 5 : 0), i + 1);
+        }
+        y.list(0, 0, 0);
+        y.load(0, 0);
+        CHECK.due("it begins", y.go(0), 0);
+        CHECK.due("half of them have one CHANNEL of three", y.found(3), 8 * 108);
+        CHECK.due("four CHANNELS", y.playback(0, 6), 4);
+        CHECK.due("the last ENTRIES are of 0 ticks", y.playback(0, 3), 0);
+        for (int c = 0; c < 3; c++) {
+            CHECK.due("the last ENTRY of it", y.value(0, 0, c), 109 + c);
+        }
+        CHECK.due("the last ENTRY of it", y.value(0, 1, 0), 109);
     }
 
     /** PLAYBACK 0 is at the first CUE (4) of LIST 0, which has this FOLLOW; the second one is 5. */
