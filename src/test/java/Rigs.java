@@ -26,6 +26,22 @@ final class Rigs {
         livelyBeforeTicks(x);
         x.call("tick", 1);
     };
+    /**
+     * LIVELY, later: in a BLACKOUT, PLAYBACK 0 at its second CUE; RATE of the STROBE has been BENT to 100, is MERGED by
+     * the latest, and will be in the HOLE of its CURVE in the next TICK.
+     */
+    static final Rig LATE = x -> {
+        LIVELY.set(x);
+        x.call("blackout", 1);
+        x.call("go", 0);
+        x.call("patch", 1, 1, 0);
+        x.call("tick", 4);
+        x.call("merge", 1, 1, 1);
+        x.call("entry", 9, 1, 1, 15, 0);
+        x.call("list", 3, 9, 0);
+        x.call("load", 3, 3);
+        x.call("go", 3);
+    };
     static final Rig ALL_PLUGGED = x -> {
         LIVELY.set(x);
         x.call("plug", 2);

@@ -1,20 +1,31 @@
+import java.util.ArrayList;
+import java.util.List;
+
 /** A board whose calls are told by name and numbers, and counted: no more than the document promises an answer to. */
 final class Run {
     static final int MOST_CALLS = 512;
 
     final CueBoard board = new CueBoard();
-    private int calls = 0;
+    /** What was called so far, and what it answered. */
+    final List<Model.Call> made = new ArrayList<>();
+    final List<Integer> answers = new ArrayList<>();
 
     int calls() {
-        return calls;
+        return made.size();
     }
 
     /** The call, on = 1 standing for true. */
     int call(String name, int... a) {
-        calls++;
-        if (calls > MOST_CALLS) {
+        if (made.size() >= MOST_CALLS) {
             throw new IllegalStateException("a test makes more calls than are promised");
         }
+        int answer = answer(name, a);
+        made.add(new Model.Call(name, a));
+        answers.add(answer);
+        return answer;
+    }
+
+    private int answer(String name, int... a) {
         switch (a.length) {
             case 0: return name.equals("digest") ? board.digest() : board.replay();
             case 1: return ofOne(name, a[0]);

@@ -18,17 +18,23 @@ final class Views {
 
     /** All rows, each of so many calls at most: what asks is cut in pieces, what is too long else is left out. */
     static List<List<Model.Call>> within(int room) {
+        List<List<Model.Call>> all = asking(room);
+        for (Views view : new Views[] {countEntries(), countCues(), countPoints(), countFixtures(), masters(),
+            goesOn(), stops(), lights(), lightsAll(true), lightsAll(false), turnsBack()}) {
+            if (view.calls.size() <= room) {
+                all.add(view.calls);
+            }
+        }
+        return all;
+    }
+
+    /** The rows that ask alone, in pieces of so many calls at most. */
+    static List<List<Model.Call>> asking(int room) {
         List<List<Model.Call>> all = new ArrayList<>();
         for (Views view : new Views[] {tellings(), traces(), playbacks(), heats(), bytes(), fixtures(), members(),
             values(), curves()}) {
             for (int i = 0; i < view.calls.size(); i += room) {
                 all.add(view.calls.subList(i, Math.min(i + room, view.calls.size())));
-            }
-        }
-        for (Views view : new Views[] {countEntries(), countCues(), countPoints(), countFixtures(), masters(),
-            goesOn(), stops(), lights(), lightsAll(true), lightsAll(false), turnsBack()}) {
-            if (view.calls.size() <= room) {
-                all.add(view.calls);
             }
         }
         return all;
